@@ -514,7 +514,6 @@ public final class LineBlocks {
             if (hits == HITS_TO_LOCK) {
                 locked = true;
                 hits = 0;
-                beginRow();
             }
         }
 
@@ -539,6 +538,7 @@ public final class LineBlocks {
         private void slip() {
             locked = false;
             hits = 0;
+            // No row is counted while unlocked; the next lock finds a new one here.
             beginRow();
             slips++;
             // The line may be empty now: the bit is dropped when it comes.

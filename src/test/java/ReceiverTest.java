@@ -182,15 +182,20 @@ public final class ReceiverTest {
     private static void wrongHeadsAreErrors() {
         LineBlocks x = Blocks.locked();
         x.word(1, 2);
-        x.idle(1);
+        x.word(1, 2);
+        x.idle(2);
         x.word(3, 4);
-        x.turn(0);
-        x.turn(66);
-        CHECK.due("receive(198)", x.receive(198), 3);
-        isTold(x, 0, E, E, E, E, E, E, E, E);
-        isTold(x, 1, E, E, E, E, E, E, E, E);
-        isTold(x, 2, 0, 0, 0, 3, 0, 0, 0, 4);
-        stands(x, "behind heads 1 1 and 0 0", 1, 0, 0, 0, 3, 2);
+        // Both wrong heads, 1 1 and 0 0, of a data block and of one whose type could be read.
+        CHECK.due("turn(0)", x.turn(0), 1);
+        CHECK.due("turn(67)", x.turn(66 + 1), 0);
+        CHECK.due("turn(132)", x.turn(132), 0);
+        CHECK.due("turn(199)", x.turn(198 + 1), 1);
+        CHECK.due("receive(330)", x.receive(330), 5);
+        for (int i = 0; i < 4; i++) {
+            isTold(x, i, E, E, E, E, E, E, E, E);
+        }
+        isTold(x, 4, 0, 0, 0, 3, 0, 0, 0, 4);
+        stands(x, "behind four wrong heads", 1, 0, 0, 0, 5, 4);
     }
 
     /** Sends a block with a wrong head and has it taken. */
