@@ -164,11 +164,11 @@ public final class LineBlocks {
         }
 
         void append(int b) {
-            count++;
+            int p = ringPlace(count);
             // What stood in this place of the ring earlier is still there.
-            if (at(count - 1) != b) {
-                flip(count - 1);
-            }
+            words[p / WORD_BITS] &= ~(1L << (p % WORD_BITS));
+            words[p / WORD_BITS] |= (long) b << (p % WORD_BITS);
+            count++;
         }
 
         void dropFirst(int n) {

@@ -1,6 +1,7 @@
-/** Counts and prints the calls whose answer is not the one that is due. */
+/** Counts the answers that are not due, and prints each with the sentence that asks for another. */
 final class Check {
     private final String test;
+    private String sentence = "";
     private int right;
     private int wrong;
 
@@ -8,12 +9,18 @@ final class Check {
         this.test = test;
     }
 
+    /** What is due from here on is due by these words of the document. */
+    void sentence(String words) {
+        sentence = " \"" + words + "\":";
+    }
+
     void due(String call, long got, long want) {
         if (got == want) {
             right++;
         } else {
             wrong++;
-            System.out.println(test + ": " + call + " answered " + got + ", due is " + want);
+            System.out.println(
+                    test + ":" + sentence + " " + call + " answered " + got + ", due is " + want);
         }
     }
 

@@ -35,7 +35,8 @@ public final class ModelTest {
             receive(9999);
             calls = 2;
         }
-        while (calls < CALLS - 8) {
+        // A step has up to eight calls, and so has the end.
+        while (calls <= CALLS - 16) {
             calls += step();
         }
         for (int what = 0; what < 6; what++) {
